@@ -376,6 +376,7 @@ public final class PromisesTest {
         due(">", given(x, "h>t", 5, 4, 0), 1);
         due(">", given(x, "h>t", 5, 5, 0), 0);
         due("< ahead of &", given(x, "1<2&3", 0, 0, 0), 1);
+        due("| within ( )", given(x, "(h|t)+(h&t)*3", 5, 0, 0), 1);
         due("!", given(x, "!h", 5, 0, 0), 0);
         due("!", given(x, "!h", 0, 0, 0), 1);
         due("!!", given(x, "!!h", -7, 0, 0), 1);
@@ -415,6 +416,32 @@ public final class PromisesTest {
         x.hold(0, 1, 5);
         x.days(1);
         due("holds(0, 1), held", x.holds(0, 1), 4);
+        FelledByNames v = new FelledByNames();
+        read(v, 0, "h/10*2-t*2+d");
+        int[][] hold = new int[6][6];
+        for (int i = 0; i < 36; i++) {
+            v.hold(i / 6, i % 6, i * 2);
+            v.talk(i % 6, i % 6);
+            hold[i / 6][i % 6] = i * 2;
+        }
+        for (int day = 0; day < 20; day++) {
+            v.days(1);
+            for (int i = 0; i < 36; i++) {
+                int h = hold[i / 6][i % 6];
+                int more = h / 10 * 2 - (i / 6 + i % 6) * 2 + day % 7;
+                hold[i / 6][i % 6] = Math.max(0, Math.min(99, h + Math.max(-9, Math.min(9, more))));
+                if (i / 6 != i % 6) {
+                    due("holds on DAY " + day, v.holds(i / 6, i % 6), hold[i / 6][i % 6]);
+                }
+            }
+        }
+        v.hold(0, 1, 50);
+        v.image();
+        read(v, 0, "h/10*2-t*2+d-5");
+        int d = v.count(1) % 7;
+        due("then, by another TEXT", v.then(1, 0, 1), 50 + d + 3);
+        v.restore();
+        due("then, by the TEXT of the IMAGE", v.then(1, 0, 1), 50 + Math.min(9, d + 8));
         FelledByNames y = new FelledByNames();
         for (int i = 0; i < 166; i++) {
             y.days(60);
@@ -432,6 +459,12 @@ public final class PromisesTest {
         due("days(1)", y.days(1), STATE);
         promise = 16;
         due("loose(1)", y.loose(1), STATE);
+        FelledByNames w = new FelledByNames();
+        for (int i = 0; i < 166; i++) {
+            w.days(60);
+        }
+        due("loose(39)", w.loose(39), 0);
+        due("count(1)", w.count(1), 9999);
         promise = 18;
         y.tree(0, 1, 0, 9);
         y.talk(0, 1);
@@ -575,6 +608,9 @@ public final class PromisesTest {
         due("then(7, 0, 1)", x.then(7, 0, 1), 13);
         due("then(60, 0, 1)", x.then(60, 0, 1), 0);
         due("then(60, 2, 1)", x.then(60, 2, 1), 20);
+        x.talk(2, 3);
+        due("then(2, 2, 0), TALK about both", x.then(2, 2, 0), 12);
+        x.talk(2, 0);
         due("then(61, 2, 1)", x.then(61, 2, 1), BEYOND);
         due("then(-1, 2, 1)", x.then(-1, 2, 1), BEYOND);
         due("then(1, 2, 2)", x.then(1, 2, 2), BEYOND);
@@ -583,6 +619,7 @@ public final class PromisesTest {
         read(x, 0, "d+1");
         x.hold(3, 4, 0);
         due("then(3, 3, 4)", x.then(3, 3, 4), 6);
+        due("then(60, 3, 4), held", x.then(60, 3, 4), 99);
         x.days(2);
         x.hold(3, 4, 0);
         due("then(6, 3, 4)", x.then(6, 3, 4), 3 + 4 + 5 + 6 + 7 + 1);
@@ -648,6 +685,10 @@ public final class PromisesTest {
         read(x, 0, "t*t-9*t");
         due("gossip, it isn't more by more TALK", x.gossip(0, 2), NONE);
         due("gossip, it isn't more by more TALK", x.gossip(0, 3), 1);
+        read(x, 0, "0-(t=18)*9");
+        due("gossip, with 9 alone", x.gossip(0, 3), 9);
+        read(x, 0, "0-(t=20)*9");
+        due("gossip, with none", x.gossip(0, 30), NONE);
         FelledByNames y = new FelledByNames();
         y.tree(0, 1, 0, 9);
         y.tree(0, 12, 0, 9);
@@ -672,6 +713,8 @@ public final class PromisesTest {
         due("about(1, 3), fewest go ahead of least", y.about(1, 3), 0b000011);
         due("about(3, 3)", y.about(3, 3), 0b000111);
         due("about(7, 30)", y.about(7, 30), 0b011111);
+        y.tree(0, 54, 0, 9);
+        due("about(15, 30), all", y.about(15, 30), 0b111111);
         due("talkOf(4)", y.talkOf(4), 5);
     }
 
@@ -736,6 +779,12 @@ public final class PromisesTest {
         due("crash(0), not any more", x.crash(0), 2);
         x.become(0, 50);
         due("crash of a HOLLOW", x.crash(0), 1);
+        FelledByNames y = new FelledByNames();
+        for (int i = 0; i < 8; i++) {
+            y.tree(0, 1, i, 99 - i);
+        }
+        due("crash, each by the one ahead", y.crash(0), 8);
+        due("crash, from the middle", y.crash(5), 3);
     }
 
     private static void keeper() {
@@ -763,6 +812,16 @@ public final class PromisesTest {
         due("keeper(5, 2)", x.keeper(5, 2), BEYOND);
         due("keeper(5, -1)", x.keeper(5, -1), BEYOND);
         due("holds(2, 1)", x.holds(2, 1), 20);
+        FelledByNames y = new FelledByNames();
+        y.tree(0, 1, 0, 9);
+        y.tree(0, 20, 0, 9);
+        for (int i = 0; i < 6; i++) {
+            y.talk(i, 9);
+        }
+        due("keeper(5, 0)", y.keeper(5, 0), 0);
+        due("keeper(5, 1)", y.keeper(5, 1), 2);
+        due("keeper(11, 1), 99 at first", y.keeper(10, 1), 2);
+        due("keeper(11, 1), 99 at first", y.keeper(11, 1), 0);
     }
 
     private static void order() {
@@ -782,6 +841,8 @@ public final class PromisesTest {
         due("order(1)", x.order(1), 0);
         fill(x, 1, 32);
         due("order(1), no numbers", x.order(1), 0);
+        fill(x, 1, 32, 0, 1, 3, 2, 4, 5, 6, -1, -1);
+        due("order(1), numbers behind the last", x.order(1), 7);
         fill(x, 1, 32, 0);
         due("order(1)", x.order(1), 1);
         holdBoth(x, 2, 3, 61);
@@ -814,6 +875,7 @@ public final class PromisesTest {
         x.change(4, 0, 11);
         x.change(4, 1, 99);
         due("safe(20)", x.safe(20), 11);
+        due("safe(60)", x.safe(60), 11);
         due("safe(19)", x.safe(19), 15);
         due("count(2)", x.count(2), 15);
         FelledByNames y = new FelledByNames();
