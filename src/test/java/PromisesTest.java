@@ -781,7 +781,7 @@ public final class PromisesTest {
         due("crash of a HOLLOW", x.crash(0), 1);
         FelledByNames y = new FelledByNames();
         for (int i = 0; i < 8; i++) {
-            y.tree(0, 1, i, 99 - i);
+            y.tree(0, 1, i, 27 - i);
         }
         due("crash, each by the one ahead", y.crash(0), 8);
         due("crash, from the middle", y.crash(5), 3);
