@@ -1,53 +1,5 @@
 /** For each promise of the document: ordinary inputs, the edges that it names, wrong inputs. */
-public final class PromisesTest {
-    private static final int BEYOND = -1000000001;
-    private static final int NONE = -1000000002;
-    private static final int STATE = -1000000003;
-    private static final int FULL = -1000000004;
-    private static final int KIND = -1000000005;
-    private static final int MIN = Integer.MIN_VALUE;
-    private static final int MAX = Integer.MAX_VALUE;
-
-    private static int promise = 0;
-    private static int wrong = 0;
-
-    private static void due(String call, int got, int want) {
-        if (got != want) {
-            wrong++;
-            System.out.println("promise " + promise + ": " + call + " answered " + got + ", due is " + want);
-        }
-    }
-
-    private static int feedAll(FelledByNames x, String text) {
-        int size = x.count(7);
-        for (int i = 0; i < text.length(); i += 8) {
-            long word = 0;
-            int n = Math.min(8, text.length() - i);
-            for (int k = 0; k < n; k++) {
-                word |= (long) text.charAt(i + k) << 8 * k;
-            }
-            size = x.feed(word, n);
-        }
-        return size;
-    }
-
-    private static int read(FelledByNames x, int use, String text) {
-        feedAll(x, text);
-        return x.text(use);
-    }
-
-    private static void holdBoth(FelledByNames x, int one, int other, int v) {
-        x.hold(one, other, v);
-        x.hold(other, one, v);
-    }
-
-    private static void fill(FelledByNames x, int sheet, int bits, int... numbers) {
-        x.sheet(sheet, bits, numbers.length);
-        for (int i = 0; i < numbers.length; i++) {
-            x.put(sheet, i, numbers[i]);
-        }
-    }
-
+public final class PromisesTest extends Due {
     public static void main(String[] args) {
         newObject();
         people();
@@ -76,10 +28,7 @@ public final class PromisesTest {
         tellAndCheck();
         countAndTold();
         errorsChangeNothing();
-        System.out.println(wrong == 0 ? "all promises are kept" : wrong + " answers are not as due");
-        if (wrong != 0) {
-            System.exit(1);
-        }
+        end();
     }
 
     private static void newObject() {
