@@ -6,6 +6,7 @@ public final class EdgesOfThoughtTest extends Due {
     public static void main(String[] args) {
         thenArguments();
         thenHeld();
+        thenOfAllSorts();
         when();
         down();
         gossipArguments();
@@ -27,6 +28,7 @@ public final class EdgesOfThoughtTest extends Due {
         safePlaces();
         oddsArguments();
         oddsAll();
+        kindsInThought();
         beyondTheLastDay();
         end();
     }
@@ -86,6 +88,36 @@ public final class EdgesOfThoughtTest extends Due {
         due("a TREE changes nothing of it", x.then(10, 4, 1), 7);
         x.days(60);
         due("what it was held at", x.holds(4, 1), 0);
+    }
+
+    /** A TEXT that is another one for each HOLDS, TALK and DAY, asked for over and over on one object. */
+    private static void thenOfAllSorts() {
+        promise = 17;
+        FelledByNames x = new FelledByNames();
+        read(x, 0, "(h*7+t*5+d*3)%19-9+(h<30)*3-(h>70)*3");
+        int[] hold = new int[36];
+        for (int i = 0; i < 36; i++) {
+            hold[i] = i == 1 ? 0 : i == 6 ? 99 : i * 37 % 100;
+            x.hold(i / 6, i % 6, hold[i]);
+        }
+        for (int round = 0; round < 10; round++) {
+            int[] talk = new int[6];
+            for (int i = 0; i < 6; i++) {
+                talk[i] = round == 0 ? 9 : round == 1 ? 0 : (round + i * 2) % 10;
+                x.talk(i, talk[i]);
+            }
+            for (int i = 0; i < 36; i++) {
+                if (i / 6 != i % 6) {
+                    int held = hold[i];
+                    for (int day = 0; day < 60; day++) {
+                        int gives = (held * 7 + (talk[i / 6] + talk[i % 6]) * 5 + day % 7 * 3) % 19 - 9;
+                        gives += held < 30 ? 3 : held > 70 ? -3 : 0;
+                        held = Math.max(0, Math.min(99, held + Math.max(-9, Math.min(9, gives))));
+                    }
+                    due(call("then", 60, i / 6, i % 6), x.then(60, i / 6, i % 6), held);
+                }
+            }
+        }
     }
 
     private static void when() {
@@ -487,6 +519,10 @@ public final class EdgesOfThoughtTest extends Due {
         }
         fill(x, 0, 32, 0, 1, 2, 3, 4, 5, 6, 7, 8, 9);
         due("more numbers than TREES", x.order(0), 8);
+        fill(x, 0, 32, 0, 1, 2, 3, 4, 5, 6, 7, -1, -1);
+        due("more numbers than TREES, that are none", x.order(0), 8);
+        fill(x, 0, 32, 0, 1, 2, 3, 4, 5, 6, 7, 0);
+        due("more numbers than TREES, one that fell", x.order(0), 8);
         holdBoth(x, 3, 1, 60);
         due("behind 60 DAYS", x.order(0), 8);
         holdBoth(x, 3, 1, 61);
@@ -644,6 +680,88 @@ public final class EdgesOfThoughtTest extends Due {
         holdBoth(y, 0, 1, 0);
         due("by another one's fall", y.odds(1, 10, 0), 1);
         due("by another one's fall", y.odds(1, 10, 1), 1);
+    }
+
+    /** Behind how many DAYS, and how high, a TREE with m 9 falls whose names HOLD one less on each DAY. */
+    private static int[] fallOf(int kind, int height, int hold) {
+        for (int n = 1;; n++) {
+            int day = n - 1;
+            int[] grows = {0, day % 3 == 0 ? 1 : 0, 0, 1, day % 3 == 0 ? 1 : 0, 0, 2};
+            height = Math.min(99, height + grows[kind]);
+            int[] limits = {0, 9, 4, 5, day % 2 == 0 ? 9 : 0, 24, 5 + height / 10};
+            if (Math.max(0, hold - n) <= limits[kind]) {
+                return new int[] {n, height};
+            }
+        }
+    }
+
+    /** One of each KIND, as the first of a new object, is thought of by its own LIMIT, GROWS and REACHES. */
+    private static void kindsInThought() {
+        for (int i = 0; i < 7 * 6; i++) {
+            int kind = i % 7;
+            int hold = 27 + i / 7 % 3;
+            int height = i / 21 * 71 + 18;
+            int[] fall = fallOf(kind, height, hold);
+            int n = fall[0];
+            boolean reaches = kind != 5 && fall[1] >= 20;
+            String of = " of KIND " + kind + ", HEIGHT " + height + ", HOLDS " + hold;
+            promise = 18;
+            due("when" + of, kindAlone(kind, height, hold).when(0), n);
+            due("when, by its fall" + of, kindAlone(kind, height, hold).when(1), reaches ? n : NONE);
+            promise = 19;
+            due("down" + of, kindAlone(kind, height, hold).down(n - 1), 0);
+            due("down" + of, kindAlone(kind, height, hold).down(n), reaches ? 3 : 1);
+            promise = 20;
+            due("gossip" + of, kindAlone(kind, height, hold).gossip(0, n - 1), NONE);
+            due("gossip" + of, kindAlone(kind, height, hold).gossip(0, n), 0);
+            promise = 21;
+            due("about" + of, kindAlone(kind, height, hold).about(1, n - 1), NONE);
+            due("about" + of, kindAlone(kind, height, hold).about(1, n), 0);
+            promise = 22;
+            FelledByNames x = kindAlone(kind, height, hold);
+            fill(x, 0, 8, 0, reaches ? 0 : 1, n);
+            due("talked" + of, x.talked(0, 0), 10);
+            x.put(0, 2, n - 1);
+            due("talked" + of, x.talked(0, 0), 0);
+            promise = 24;
+            due("keeper" + of, kindAlone(kind, height, hold).keeper(n - 1, 0), 0);
+            due("keeper" + of, kindAlone(kind, height, hold).keeper(n, 0), 4);
+            promise = 25;
+            x = kindAlone(kind, height, hold);
+            fill(x, 0, 8, 0, 1);
+            due("order" + of, x.order(0), reaches ? 2 : 1);
+            promise = 26;
+            due("timber" + of, kindAlone(kind, height, hold).timber(n), fall[1] + (reaches ? 5 : 0));
+            promise = 27;
+            due("safe" + of, kindAlone(kind, height, hold).safe(n), reaches ? 14 : 15);
+            due("safe" + of, kindAlone(kind, height, hold).safe(n - 1), 15);
+            promise = 28;
+            int down = 0;
+            for (int v = 0; v < 100; v += 10) {
+                down += fallOf(kind, height, v)[0] <= n ? 1 : 0;
+            }
+            x = kindAlone(kind, height, hold);
+            due("odds" + of, x.odds(0, n, 0) * 10 / x.odds(0, n, 1), down);
+            promise = 23;
+            x = kindAlone(kind, height, hold);
+            due("crash" + of, x.crash(0), kind != 5 && height >= 20 ? 2 : 1);
+            promise = 40;
+            x = kindAlone(kind, height, hold);
+            for (int day = 1; day <= 20; day++) {
+                x.tell(day < n ? 2 : reaches ? 0 : 1);
+            }
+            due("check" + of, x.check(), 0);
+        }
+    }
+
+    private static FelledByNames kindAlone(int kind, int height, int hold) {
+        FelledByNames x = new FelledByNames();
+        read(x, 0, "0-1");
+        x.tree(kind * 10 + 9, 45, 14, height);
+        x.tree(0, 23, 15, 5);
+        holdBoth(x, 4, 5, hold);
+        holdBoth(x, 2, 3, 99);
+        return x;
     }
 
     /** Thoughts go on beyond DAY 9999: the rest by 7 is 3 on it, it is odd, 3 divides it. */
