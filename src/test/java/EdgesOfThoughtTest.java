@@ -7,6 +7,7 @@ public final class EdgesOfThoughtTest extends Due {
         thenArguments();
         thenHeld();
         thenOfAllSorts();
+        thenAtTheEdges();
         when();
         down();
         gossipArguments();
@@ -116,6 +117,22 @@ public final class EdgesOfThoughtTest extends Due {
                     }
                     due(call("then", 60, i / 6, i % 6), x.then(60, i / 6, i % 6), held);
                 }
+            }
+        }
+    }
+
+    /** The least and the most that one HOLDS, with each TALK about both together, on one object. */
+    private static void thenAtTheEdges() {
+        promise = 17;
+        FelledByNames x = new FelledByNames();
+        read(x, 0, "(h<50)*(t%5+1)-(h>49)*(t%7+1)");
+        for (int both = 0; both <= 18; both++) {
+            x.talk(0, both / 2);
+            x.talk(1, both - both / 2);
+            for (int held : new int[] {98, 99, 0, 1}) {
+                x.hold(0, 1, held);
+                int more = held < 50 ? both % 5 + 1 : -(both % 7 + 1);
+                due("then, HOLDS " + held + ", TALK " + both, x.then(1, 0, 1), held + more);
             }
         }
     }
