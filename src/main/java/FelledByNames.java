@@ -709,7 +709,7 @@ public final class FelledByNames {
         }
 
         final int get(int i) {
-            return has(i) ? at[i] : -1;
+            return i >= 0 && i < size ? at[i] : -1;
         }
 
         final void add(int v) {
@@ -925,7 +925,7 @@ public final class FelledByNames {
                     stack[top - 1] = joined(word - SIGN, stack[top - 1], stack[top]);
                 }
             }
-            return clamp(stack[0], low, high);
+            return Math.max(low, Math.min(high, stack[0]));
         }
 
         private static int named(int name, int a, int b, int c) {
